@@ -13,6 +13,7 @@ public final class WouldBeTest {
         promise36RenamedByRule();
         promise37MeanMouth();
         promise38Digest();
+        waysAgainstTheNumbers();
         questionsChangeNothing();
         wrongInputs();
         CHECK.end();
@@ -167,6 +168,31 @@ public final class WouldBeTest {
             d = d * 31 + number;
         }
         return d;
+    }
+
+    /** 4 leads to 3, and so on to 0, where 5 comes in: greater numbers are the farther ones. */
+    private static void waysAgainstTheNumbers() {
+        RiverNames x = new RiverNames();
+        x.addPlace();
+        x.addPlace();
+        x.addPlace();
+        x.addPlace();
+        x.addSpring(6, 10, -4);
+        x.addSpring(8, 9, 0);
+        for (int place = 4; place > 0; place--) {
+            x.lead(place, place - 1);
+        }
+        x.lead(5, 0);
+        CHECK.due("32 before", x.nameIn(1, 2), 6);
+        CHECK.due("32 renamed", x.nameIn(0, 1), 8);
+        CHECK.due("33 by the other river", x.yearsUntilRenamed(0), 1);
+        CHECK.due("33 dry far above", x.yearsUntilRenamed(1), 3);
+        CHECK.due("34 the farthest", x.weightiestSpring(), 4);
+        CHECK.due("35 far above", x.renamedByDelta(4), 5);
+        CHECK.due("35 halfway", x.renamedByDelta(2), 3);
+        CHECK.due("36 the longer one has it", x.renamedByRule(), 0);
+        x.pass(1);
+        CHECK.due("36 the longer one would have it", x.renamedByRule(), 1);
     }
 
     private static void questionsChangeNothing() {
