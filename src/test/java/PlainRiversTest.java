@@ -277,19 +277,23 @@ public final class PlainRiversTest {
                         name < 0 || name > 9 ? INDEX : plain.named(name));
             }
             case 22 -> CHECK.due(where + "greatestName", x.greatestName(), plain.greatestName());
-            case 23 -> {
-                CHECK.due(where + "nameless", x.nameless(), plain.named(-1));
-                CHECK.due(where + "insults", x.insults(), plain.insultsAt(-1));
-                CHECK.due(where + "bridges", x.bridges(), plain.built.size());
-                CHECK.due(where + "places", x.places(), plain.all.size());
-                CHECK.due(where + "year", x.year(), plain.year);
-            }
+            case 23 -> askOfCounts(where, draw(5));
             case 24 -> CHECK.due(where + "weightiestSpring", x.weightiestSpring(),
                     plain.weightiestSpring());
             case 25 -> CHECK.due(where + "renamedByRule", x.renamedByRule(),
                     plain.renamedByRule());
             case 26 -> CHECK.dueDouble(where + "meanMouth", x.meanMouth(), plain.meanMouth());
             default -> CHECK.due(where + "digest", x.digest(), plain.digest());
+        }
+    }
+
+    private void askOfCounts(String where, int kind) {
+        switch (kind) {
+            case 0 -> CHECK.due(where + "nameless", x.nameless(), plain.named(-1));
+            case 1 -> CHECK.due(where + "insults", x.insults(), plain.insultsAt(-1));
+            case 2 -> CHECK.due(where + "bridges", x.bridges(), plain.built.size());
+            case 3 -> CHECK.due(where + "places", x.places(), plain.all.size());
+            default -> CHECK.due(where + "year", x.year(), plain.year);
         }
     }
 }

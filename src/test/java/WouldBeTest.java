@@ -15,7 +15,6 @@ public final class WouldBeTest {
         promise38Digest();
         waysAgainstTheNumbers();
         questionsChangeNothing();
-        wrongInputs();
         CHECK.end();
     }
 
@@ -213,22 +212,5 @@ public final class WouldBeTest {
         CHECK.due("32 to 36 nothing is changed", x.digest(), before);
         CHECK.due("36 the rule", x.setRule(0), 0);
         CHECK.due("35 the delta", x.turnDelta(2), false);
-    }
-
-    private static void wrongInputs() {
-        RiverNames x = land();
-        int[] nowhere = {-1, 4, 16, Integer.MIN_VALUE, Integer.MAX_VALUE};
-        for (int place : nowhere) {
-            Class<IndexOutOfBoundsException> due = IndexOutOfBoundsException.class;
-            CHECK.refused("32 place", x, due, () -> x.nameIn(place, 1));
-            CHECK.refused("32 place before years", x, due, () -> x.nameIn(place, 0));
-            CHECK.refused("33", x, due, () -> x.yearsUntilRenamed(place));
-            CHECK.refused("35", x, due, () -> x.renamedByDelta(place));
-        }
-        int[] wrongYears = {0, -1, 51, Integer.MIN_VALUE, Integer.MAX_VALUE};
-        for (int years : wrongYears) {
-            CHECK.refused("32 years", x, IllegalArgumentException.class,
-                    () -> x.nameIn(0, years));
-        }
     }
 }
