@@ -30,7 +30,8 @@ public final class PromiseEdgesTest {
         promise33ForTheFirstTime();
         promise34NoSpringHasWater();
         promise34OfSeveralTheSmallest();
-        promise34AnotherNameOrNoneOrOneAtLast();
+        promise34AnotherNameOrNone();
+        promise34DryIsWithoutWater();
         promise35MadeADeltaOrNone();
         promise36TheOtherRule();
         promise37WithoutAny();
@@ -345,8 +346,8 @@ public final class PromiseEdgesTest {
         CHECK.due("34 none by the first", z.weightiestSpring(), 1);
     }
 
-    /** "another name than now, or none, or one at last, if it was dry" */
-    private static void promise34AnotherNameOrNoneOrOneAtLast() {
+    /** "another name than now, or none": one at last comes of no spring that dries. */
+    private static void promise34AnotherNameOrNone() {
         RiverNames x = springs(5, 9);
         x.addPlace();
         x.addPlace();
@@ -364,6 +365,29 @@ public final class PromiseEdgesTest {
         y.lead(1, 2);
         y.lead(3, 4);
         CHECK.due("34 none, not the same name from another", y.weightiestSpring(), 3);
+    }
+
+    /** "if it was dry": 1, without any of the three springs of name 7, still is even with 2. */
+    private static void promise34DryIsWithoutWater() {
+        RiverNames x = new RiverNames();
+        x.addSpring(7, 5, 0);
+        x.addSpring(7, 5, 0);
+        x.addSpring(8, 10, 0);
+        x.addSpring(7, 5, 0);
+        for (int place = 4; place < 7; place++) {
+            x.addPlace();
+        }
+        x.lead(0, 1);
+        x.lead(3, 1);
+        x.lead(1, 4);
+        x.lead(2, 4);
+        x.lead(4, 5);
+        x.lead(5, 6);
+        CHECK.due("34 each that renames itself alone", x.weightiestSpring(), 0);
+        x.addSpring(9, 1, 0);
+        x.addPlace();
+        x.lead(7, 8);
+        CHECK.due("34 one that renames another", x.weightiestSpring(), 7);
     }
 
     /** "if it was made a delta, or none" */
