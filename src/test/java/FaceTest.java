@@ -73,6 +73,7 @@ public final class FaceTest {
             boolean hidden = !Modifier.isPublic(kind) && !Modifier.isProtected(kind);
             CHECK.due(inner.getName() + " is hidden and static",
                     hidden && Modifier.isStatic(kind), true);
+            checkNamesInside(face, inner);
         }
         CHECK.end();
     }
@@ -109,6 +110,15 @@ public final class FaceTest {
         }
         for (String method : seen) {
             CHECK.due("the document has " + method, due.contains(method), true);
+        }
+    }
+
+    private static void checkNamesInside(Class<?> face, Class<?> inner) {
+        for (Method method : inner.getDeclaredMethods()) {
+            boolean taken = Arrays.stream(face.getMethods())
+                    .anyMatch(shown -> shown.getName().equals(method.getName()));
+            CHECK.due(inner.getName() + "." + method.getName() + " bears no name of the face",
+                    taken, false);
         }
     }
 
